@@ -29,6 +29,7 @@ public final class PromiseTests {
         promise12Stopped();
         promise13Told();
         promise14Undo();
+        promise14UndoOfEachCall();
         promise15Keep();
         promise16Restore();
         promise17Box();
@@ -534,6 +535,33 @@ public final class PromiseTests {
         x.idle(1);
         x.undo();
         is("the snapshot stays", 2, x::restore);
+    }
+
+    private static void promise14UndoOfEachCall() {
+        SortCases x = quietCase();
+        x.undo();
+        x.undo();
+        x.change(1, 3);
+        work(x, "swap:ab;swap:cd;set:aacc;fix0;back;set:aabbcc;fix9");
+        x.keep();
+        String[] undoable = {"set", "idle", "fix", "back", "swap", "change", "work", "restore"};
+        Checks.Call[] calls = {() -> x.set(4), () -> x.idle(9), () -> x.fix(firstFit(x)), x::back, () -> x.swap(4, 5),
+            () -> x.change(0, 90), () -> work(x, "set:e;idle40;back"), x::restore};
+        long digest = x.digest();
+        for (int i = 0; i < calls.length; i++) {
+            calls[i].answer();
+            is(undoable[i] + " saves", 3, () -> x.count(17));
+            is(undoable[i] + " is undone", 2, x::undo);
+            CHECKS.same("undo of " + undoable[i], digest, x.digest());
+        }
+    }
+
+    private static int firstFit(SortCases x) {
+        int place = 0;
+        while (x.line(place, 3) != 0) {
+            place++;
+        }
+        return place;
     }
 
     private static void promise15Keep() {
