@@ -5,6 +5,7 @@ final class Checks {
     }
 
     private final String name;
+    private String sentence = "";
     private int passed = 0;
     private int failed = 0;
 
@@ -16,8 +17,7 @@ final class Checks {
         if (due.equals(got)) {
             passed++;
         } else {
-            failed++;
-            System.out.println(name + ": " + what + " answered " + got + ", due is " + due);
+            fails(what + " answered " + got + ", due is " + due);
         }
     }
 
@@ -36,6 +36,26 @@ final class Checks {
         } catch (RuntimeException e) {
             return "throws." + e.getClass().getSimpleName();
         }
+    }
+
+    /** Tests one sentence of the document; it fails too if it checks nothing, and stops no other sentence's test. */
+    void sentence(String words, Runnable test) {
+        sentence = "\"" + words + "\" ";
+        int before = passed + failed;
+        try {
+            test.run();
+        } catch (RuntimeException e) {
+            fails("ended with " + e);
+        }
+        if (passed + failed == before) {
+            fails("checks nothing");
+        }
+        sentence = "";
+    }
+
+    private void fails(String what) {
+        failed++;
+        System.out.println(name + ": " + sentence + what);
     }
 
     void end() {

@@ -1,12 +1,5 @@
 /** Each promise of the document with answers worked out by hand: ordinary inputs, edges, and wrong inputs. */
-public final class PromiseTests {
-    private static final Class<IndexOutOfBoundsException> INDEX = IndexOutOfBoundsException.class;
-    private static final Class<IllegalArgumentException> ARGUMENT = IllegalArgumentException.class;
-    private static final Class<IllegalStateException> STATE = IllegalStateException.class;
-    private static final int[] OUTSIDE_THE_BOXES = {Integer.MIN_VALUE, -1, 12, Integer.MAX_VALUE};
-
-    private static final Checks CHECKS = new Checks("PromiseTests");
-
+public final class PromiseTests extends CaseHelp {
     public static void main(String[] args) {
         promise1NewObject();
         promise2Set();
@@ -43,66 +36,6 @@ public final class PromiseTests {
         promise26Digest();
         wrongCallsChangeNothing();
         CHECKS.end();
-    }
-
-    private static void is(String what, long due, Checks.Call call) {
-        CHECKS.answers(what, due, call);
-    }
-
-    private static void refuses(String what, Class<? extends RuntimeException> due, Checks.Call call) {
-        CHECKS.throwsIt(what, due, call);
-    }
-
-    private static void spell(SortCases x, String text) {
-        for (char c : text.toCharArray()) {
-            x.append(c);
-        }
-    }
-
-    private static int work(SortCases x, String text) {
-        spell(x, text);
-        return x.work();
-    }
-
-    private static String told(SortCases x) {
-        StringBuilder text = new StringBuilder();
-        for (int i = 0; x.told(i) != SortCases.NONE; i++) {
-            text.append((char) x.told(i));
-        }
-        return text.toString();
-    }
-
-    /** The types of a box, the upmost one first. */
-    private static String pile(SortCases x, int box) {
-        StringBuilder text = new StringBuilder();
-        for (int deep = 0; x.type(box, deep) != SortCases.NONE; deep++) {
-            text.append((char) ('a' + x.type(box, deep)));
-        }
-        return text.toString();
-    }
-
-    private static void piles(String what, SortCases x, int box, String due) {
-        CHECKS.same(what + ": box " + box, due, pile(x, box));
-    }
-
-    /** Without beats behind the letters, and with the widest line. */
-    private static SortCases quietCase() {
-        SortCases x = new SortCases();
-        x.change(0, 120);
-        x.change(1, 0);
-        return x;
-    }
-
-    /** Box a has 20 types, its six on top; the others came out of b to l. */
-    private static SortCases caseWithFullBox() {
-        SortCases x = quietCase();
-        work(x, "set:aaaaaa");
-        for (int i = 0; i < 14; i++) {
-            x.swap(0, 1 + i % 11);
-            x.set(0);
-        }
-        x.back();
-        return x;
     }
 
     private static void promise1NewObject() {
@@ -815,41 +748,6 @@ public final class PromiseTests {
         }
         x.clearBuffer();
         CHECKS.same("without a buffer", hashOf(x, ""), x.digest());
-    }
-
-    private static long hashOf(SortCases x, String buffer) {
-        long hash = 3863;
-        for (int what = 0; what <= 17; what++) {
-            hash = 31 * hash + x.count(what);
-        }
-        for (int box = 0; box < 12; box++) {
-            for (int what = 0; what <= 6; what++) {
-                hash = 31 * hash + x.box(box, what);
-            }
-            hash = 31 * hash + x.whyNot(box);
-            hash = 31 * hash + x.ifSet(box, 3);
-            for (char c : pile(x, box).toCharArray()) {
-                hash = 31 * hash + (c - 'a');
-            }
-        }
-        for (int place = 0; place < x.count(0); place++) {
-            for (int what = 0; what <= 3; what++) {
-                hash = 31 * hash + x.line(place, what);
-            }
-        }
-        for (char c : told(x).toCharArray()) {
-            hash = 31 * hash + c;
-        }
-        hash = 31 * hash + x.stopped(0);
-        hash = 31 * hash + x.stopped(1);
-        hash = 31 * hash + x.sortedIn();
-        hash = 31 * hash + x.wrongThen();
-        hash = 31 * hash + Double.doubleToLongBits(x.rightShare());
-        hash = 31 * hash + buffer.length();
-        for (char c : buffer.toCharArray()) {
-            hash = 31 * hash + c;
-        }
-        return hash;
     }
 
     private static void wrongCallsChangeNothing() {
